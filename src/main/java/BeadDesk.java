@@ -38,9 +38,9 @@ public final class BeadDesk {
     private static final int MOST_PASSES_OF_A_STEP = 4;
 
     private final Chart chart;
-    private final Way told;
-    private final Way trial;
     private final Mend mend;
+    private Way told;
+    private Way trial;
 
     public BeadDesk() {
         chart = new Chart();
@@ -163,21 +163,21 @@ public final class BeadDesk {
 
     public int best() {
         int best = NONE;
-        int fewestPieces = 0;
-        int leastThread = 0;
         for (int begin = 0; begin < BEGINS; begin++) {
             trial.follow(chart, begin);
-            if (trial.fault == NO_FAULT
-                    && (best == NONE || trial.isCheaperThan(fewestPieces, leastThread))) {
+            if (trial.fault == NO_FAULT && (best == NONE || trial.isCheaperThan(told))) {
                 best = begin;
-                fewestPieces = trial.pieces;
-                leastThread = trial.used;
+                tellTrial();
             }
         }
-        if (best != NONE) {
-            told.follow(chart, best);
-        }
         return best;
+    }
+
+    /** What was told is free from here on: it may be overwritten by the next trial. */
+    private void tellTrial() {
+        Way spare = told;
+        told = trial;
+        trial = spare;
     }
 
     public int bought(int c, int grams) {
@@ -375,8 +375,8 @@ public final class BeadDesk {
             return k >= 0 && k < pickedCount;
         }
 
-        boolean isCheaperThan(int otherPieces, int otherThread) {
-            return pieces < otherPieces || (pieces == otherPieces && used < otherThread);
+        boolean isCheaperThan(Way other) {
+            return pieces < other.pieces || (pieces == other.pieces && used < other.used);
         }
 
         int pickAt(int row, int column) {

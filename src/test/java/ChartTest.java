@@ -248,6 +248,11 @@ public final class ChartTest {
         due.is("none of it", x.bought(3, 1), 0);
         x.beads(0, 0, 1, 2);
         due.is("14100 in packs of 7", x.bought(2, 7), 3);
+        BeadDesk y = Charts.desk("44444444444");
+        y.colour(4, 3, 1, 91);
+        due.is("1001 in packs of 1", y.bought(4, 1), 2);
+        y.colour(4, 3, 1, 90);
+        due.is("990 in packs of 1", y.bought(4, 1), 1);
         due.is("grams 0", x.bought(2, 0), NONE);
         due.is("grams 1001", x.bought(2, 1001), NONE);
         due.is("c -1", x.bought(-1, 1), NONE);
@@ -279,5 +284,7 @@ public final class ChartTest {
         }
         due.is("count(0)", x.count(0), 6);
         due.is("count(1)", x.count(1), 2);
+        x.beads(11, 11, 1, 0);
+        due.is("count(1) with a row of one", x.count(1), 3);
     }
 }

@@ -9,6 +9,7 @@ public final class JoinTest {
         joinThatCannotBe();
         joinThatCannotWeaveOff();
         weavingPassesFullHolesBy();
+        weavingThroughSix();
         withoutWeaving();
         leftIsJustEnough();
         mostPieces();
@@ -90,6 +91,24 @@ public final class JoinTest {
         due.is("in 3", x.woven(1, 0), 3);
         due.is("full behind the weaving off", x.woven(1, 1), 0);
         due.picked("full behind the weaving off", x, 3, 3, 3, 2, 4, 1);
+    }
+
+    /** Steps of 1, 2, 2, 2, 2, 2 leave nothing of a piece of 11. */
+    private static void weavingThroughSix() {
+        BeadDesk x = Charts.desk("00000000");
+        Charts.holes(x, 5);
+        x.thread(11, 6);
+        due.is("work(0)", x.work(0), 8);
+        due.worked("six", x, 0, NONE, NONE, 2, 15, 7, 27);
+        for (int i = 0; i < 6; i++) {
+            due.is("woven(1, " + i + ")", x.woven(1, i), 5 - i);
+        }
+        due.is("woven(1, 6)", x.woven(1, 6), NONE);
+        due.picked("six", x, 3, 4, 4, 4, 4, 4, 4, 2, 1);
+        x.thread(11, 5);
+        due.is("five", x.work(0), 8);
+        due.picked("five", x, 3, 2, 4, 4, 4, 4, 4, 2, 1);
+        due.is("woven(1, 5)", x.woven(1, 5), NONE);
     }
 
     private static void withoutWeaving() {

@@ -6,6 +6,7 @@ public final class WorkTest {
     public static void main(String[] args) {
         emptyChart();
         wrongBegins();
+        lastRows();
         flatSquares();
         flatSquaresDownFromTheOtherSide();
         flatBricks();
@@ -30,6 +31,25 @@ public final class WorkTest {
         due.worked("empty", x, 0, NONE, NONE, 0, 0, 0, 0, NONE);
         due.is("empty: picked(0, 0)", x.picked(0, 0), NONE);
         due.is("empty: woven(0, 0)", x.woven(0, 0), NONE);
+        x.beads(4, 4, 2, 0);
+        due.is("with two", x.work(3), 2);
+        x.beads(4, 4, 2, Charts.code(6, 6));
+        due.is("without them again", x.work(3), 0);
+        due.worked("empty again", x, 0, NONE, NONE, 0, 0, 0, 0);
+        due.is("empty again: order(4, 4)", x.order(4, 4), NONE);
+        due.is("empty again: count(6)", x.count(6), 0);
+    }
+
+    private static void lastRows() {
+        BeadDesk x = new BeadDesk();
+        x.beads(10, 10, 2, 0);
+        x.beads(11, 10, 2, 0);
+        due.is("work(2)", x.work(2), 4);
+        due.picked("from row 11 down", x, 0, 11, 11, 10, 10);
+        due.picked("from row 11 down", x, 1, 10, 11, 11, 10);
+        due.is("work(1)", x.work(1), 4);
+        due.picked("up to row 11", x, 0, 10, 10, 11, 11);
+        due.picked("up to row 11", x, 1, 11, 10, 10, 11);
     }
 
     private static void wrongBegins() {
@@ -199,6 +219,10 @@ public final class WorkTest {
         x.colour(1, 1, 1, 5);
         due.is("hole 1", x.work(1), 1);
         due.worked("hole 1", x, 2, 0, 1, 1, 1, 999, 1);
+        BeadDesk y = Charts.desk("01", "0");
+        y.colour(1, 1, 1, 5);
+        due.is("the turn alone is too much", y.work(0), 2);
+        due.worked("the turn alone", y, 2, 1, 0, 1, 3, 997, 3);
     }
 
     private static void stepBeyondLength() {
