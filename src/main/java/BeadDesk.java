@@ -427,7 +427,7 @@ public final class BeadDesk {
             int firstOfRow = pickedCount;
             int lastOfRow = firstOfRow + chart.beadsInRow(row) - 1;
             boolean isFirstRow = firstOfRowBefore == NONE;
-            for (int i = 0; i < COLUMNS && fault == NO_FAULT; i++) {
+            for (int i = 0; i < COLUMNS && fault == NO_FAULT && pickedCount < CELLS; i++) {
                 int column = rising ? i : COLUMNS - 1 - i;
                 if (chart.colourAt(row, column) != NONE) {
                     layOut(chart, row, column, rowBefore);
@@ -453,6 +453,7 @@ public final class BeadDesk {
             upperOf[bead] = pickAt(rowBefore, chart.upperCatch(row, column));
         }
 
+        /** Before the very first bead stands NONE, which is no pass. */
         private void gatherInFirstRow(boolean isRing, int lastOfRow) {
             int bead = pickedCount;
             step.empty();
@@ -509,9 +510,10 @@ public final class BeadDesk {
             pickedCount++;
         }
 
+        /** Weaves at once and takes it back if it can't be: the new piece must see the old one's passes. */
         private boolean join(Chart chart) {
             int off = weaveThrough(chart, wovenOff, 0);
-            if (off < weave) {
+            if (off < weave || pieces >= CELLS) {
                 unweave(wovenOff, 0, off);
                 return false;
             }
