@@ -46,7 +46,7 @@ public final class ChartTest {
         due.is("new: woven(0, 0)", x.woven(0, 0), NONE);
         due.is("new: woven(1, 0)", x.woven(1, 0), NONE);
         due.is("new: the step is 1", firstStep(), 1);
-        due.is("new: the weight is 5", firstWeight(), 2);
+        due.is("new: the weight is light", firstWeight(), 1);
     }
 
     private static int firstStep() {
@@ -55,13 +55,12 @@ public final class ChartTest {
         return x.worked(4);
     }
 
-    /** 144 beads of 5 are 720, so 1 gram holds them; 201 beads cannot be, so the pack is filled by a heavier colour. */
+    /** A full chart shows no more of it than that 144 beads stay below a gram: how many packs more 7 needs. */
     private static int firstWeight() {
         BeadDesk x = full(3);
-        int light = x.bought(3, 1);
+        int first = x.bought(3, 1);
         x.colour(3, 3, 1, 7);
-        int heavy = x.bought(3, 1);
-        return light == 1 && heavy == 2 ? 2 : 0;
+        return x.bought(3, 1) - first;
     }
 
     private static BeadDesk full(int c) {

@@ -76,7 +76,7 @@ public final class JoinTest {
         due.picked("two beads for three", x, 3, 2, 1);
     }
 
-    /** Pieces of 6: the join ahead of 4 has 3, 2, 1 and 0 with 1, 2, 2 and 2 passes. */
+    /** Pieces of 7: at the join ahead of 4 the beads 3, 2, 1 and 0 have 1, 2, 2 and 2 passes, and 2 is full. */
     private static void weavingPassesFullHolesBy() {
         BeadDesk x = Charts.desk("02130");
         Charts.holes(x, 9);

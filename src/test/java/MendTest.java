@@ -102,12 +102,6 @@ public final class MendTest {
         y.work(0);
         due.worked("5 has no room for the next bead", y, 2, 0, 3, 2, 5, 5, 7);
         due.is("woven in behind the weaving off", y.woven(1, 0), 0);
-        BeadDesk z = Charts.desk("0110", "0");
-        Charts.holes(z, 9);
-        z.colour(1, 3, 1, 5);
-        z.thread(7, 1);
-        z.work(2);
-        due.worked("down", z, 1, 0, 3, 1, 1, 6, 1);
     }
 
     private static void wrongQuestions() {
