@@ -1,11 +1,22 @@
-/** Keeps count of the answers that are not as due; each test has one and ends with it. */
+/**
+ * Keeps count of the answers that are not as due; each test has one and ends with it. A test that belongs to one
+ * sentence of the document says so with about(), and a wrong answer then tells the sentence that is broken.
+ */
 final class Due {
     private final String test;
     private int asked = 0;
     private int wrong = 0;
+    private int sentences = 0;
+    private String sentence = "";
 
     Due(String test) {
         this.test = test;
+    }
+
+    /** The words of the document (and where they stand) that all answers up to the next about() belong to. */
+    void about(String place, String words) {
+        sentences++;
+        sentence = " [" + place + ": " + words + "]";
     }
 
     void is(String call, long got, long want) {
@@ -13,9 +24,13 @@ final class Due {
         if (got != want) {
             wrong++;
             if (wrong <= 40) {
-                System.out.println(test + ": " + call + " answered " + got + ", due is " + want);
+                System.out.println(test + sentence + ": " + call + " answered " + got + ", due is " + want);
             }
         }
+    }
+
+    void is(String call, String got, String want) {
+        is(call + " (" + got + " instead of " + want + ")", got.equals(want), true);
     }
 
     void is(String call, boolean got, boolean want) {
@@ -38,7 +53,8 @@ final class Due {
     }
 
     void end() {
-        System.out.println(test + ": " + asked + " answers, " + wrong + " not as due");
+        String of = sentences == 0 ? "" : " to " + sentences + " sentences";
+        System.out.println(test + ": " + asked + " answers" + of + ", " + wrong + " not as due");
         if (wrong != 0) {
             System.exit(1);
         }

@@ -276,34 +276,20 @@ public final class WorkTest {
         x.thread(6, 1);
         Charts.holes(x, 9);
         x.work(0);
-        String told = tell(x);
+        String told = Charts.told(x);
         x.beads(0, 0, 2, Charts.code(6, 5));
         x.beads(2, 0, 2, 0);
-        due.is("beads", tell(x).equals(told), true);
+        due.is("beads", Charts.told(x).equals(told), true);
         x.stitch(1);
         x.ring(3);
-        due.is("stitch and ring", tell(x).equals(told), true);
+        due.is("stitch and ring", Charts.told(x).equals(told), true);
         x.colour(0, 1, 20, 5);
         x.thread(1, 6);
-        due.is("colour and thread", tell(x).equals(told), true);
+        due.is("colour and thread", Charts.told(x).equals(told), true);
         due.is("the colour of a bead that is gone", x.picked(0, 5), 0);
         due.is("the order of a bead that is gone", x.order(0, 0), 0);
         x.work(0);
-        due.is("until it is worked anew", tell(x).equals(told), false);
-    }
-
-    private static String tell(BeadDesk x) {
-        StringBuilder all = new StringBuilder();
-        for (int what = 0; what < 7; what++) {
-            all.append(x.worked(what)).append(' ');
-        }
-        for (int k = 0; k < 8; k++) {
-            for (int what = 0; what < 6; what++) {
-                all.append(x.picked(k, what)).append(' ').append(x.woven(k, what)).append(' ');
-            }
-            all.append(x.hang(k)).append(' ').append(x.pull(k)).append(' ').append(x.order(k / 3, k % 3)).append(' ');
-        }
-        return all.append(x.count(6)).toString();
+        due.is("until it is worked anew", Charts.told(x).equals(told), false);
     }
 
     private static void wrongQuestions() {
